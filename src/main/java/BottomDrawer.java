@@ -366,7 +366,7 @@ public final class BottomDrawer {
         return place >= 0 && place < row.length ? row[place] : 0;
     }
 
-    private static void set(int[] row, int place, int number) {
+    private static void store(int[] row, int place, int number) {
         if (place >= 0 && place < row.length) {
             row[place] = number;
         }
@@ -451,9 +451,9 @@ public final class BottomDrawer {
             if (things >= MOST_THINGS || kind > FOLDING || size < 1 || size > 20 || cost > 20) {
                 return false;
             }
-            set(kinds, things, kind);
-            set(sizes, things, size);
-            set(costs, things, cost);
+            store(kinds, things, kind);
+            store(sizes, things, size);
+            store(costs, things, cost);
             flannel |= bit(kind == FLANNEL) << things;
             linen |= bit(kind == LINEN) << things;
             folding |= bit(kind == FOLDING) << things;
@@ -465,10 +465,10 @@ public final class BottomDrawer {
             if (lives >= MOST_LIVES || chance > 9 || toHer > 60 || toHim > 60) {
                 return false;
             }
-            set(chances, lives, chance);
-            set(hers, lives, toHer);
-            set(his, lives, toHim);
-            set(needs, lives, 0);
+            store(chances, lives, chance);
+            store(hers, lives, toHer);
+            store(his, lives, toHim);
+            store(needs, lives, 0);
             lives++;
             return true;
         }
@@ -477,7 +477,7 @@ public final class BottomDrawer {
             if (!isLife(l) || !isThing(t)) {
                 return false;
             }
-            set(needs, l, at(needs, l) ^ 1 << t);
+            store(needs, l, at(needs, l) ^ 1 << t);
             return true;
         }
 
@@ -606,7 +606,7 @@ public final class BottomDrawer {
         /** Reads numbers up to and with their ; and answers the place behind it, or NONE. */
         private int readNumbers(char[] letters, int length, int from) {
             int place = from;
-            for (amount = 0; amount < numbers.length; amount++) {
+            for (int k = 0; k < numbers.length; k++) {
                 int number = figure(letters, length, place);
                 if (number == NONE) {
                     return NONE;
@@ -617,11 +617,11 @@ public final class BottomDrawer {
                     number = 10 * number + second;
                     place++;
                 }
-                set(numbers, amount, number);
+                store(numbers, k, number);
+                amount = k + 1;
                 int sign = letter(letters, length, place);
                 place++;
                 if (sign == ';') {
-                    amount++;
                     return place;
                 }
                 if (sign != ',') {
@@ -758,10 +758,10 @@ public final class BottomDrawer {
             if (height >= limit) {
                 dropLowest();
             }
-            set(drawers, height, hour.drawer);
-            set(lived, height, hour.lived);
-            set(coins, height, hour.coins);
-            set(years, height, hour.years);
+            store(drawers, height, hour.drawer);
+            store(lived, height, hour.lived);
+            store(coins, height, hour.coins);
+            store(years, height, hour.years);
             height++;
         }
 
@@ -777,10 +777,10 @@ public final class BottomDrawer {
 
         private void dropLowest() {
             for (int i = 1; i < height; i++) {
-                set(drawers, i - 1, at(drawers, i));
-                set(lived, i - 1, at(lived, i));
-                set(coins, i - 1, at(coins, i));
-                set(years, i - 1, at(years, i));
+                store(drawers, i - 1, at(drawers, i));
+                store(lived, i - 1, at(lived, i));
+                store(coins, i - 1, at(coins, i));
+                store(years, i - 1, at(years, i));
             }
             height--;
         }
@@ -869,7 +869,7 @@ public final class BottomDrawer {
                         most = Math.max(most, 1 + at(longest, lives | 1 << l));
                     }
                 }
-                set(longest, lives, most);
+                store(longest, lives, most);
             }
         }
 
@@ -927,7 +927,7 @@ public final class BottomDrawer {
         /** For each set that the talk may come to, from few LIVES to many: which is left of it. */
         private void findLeft(Plan plan, int lives) {
             for (int l = 0; l < plan.lives; l++) {
-                set(left, 1 << l, l);
+                store(left, 1 << l, l);
             }
             int all = Integer.bitCount(lives);
             for (int set = 1; set <= lives; set++) {
@@ -935,7 +935,7 @@ public final class BottomDrawer {
                 if (size > 1 && (set & ~lives) == 0) {
                     int[] values = (all - size) % 2 == 0 ? plan.hers : plan.his;
                     int struck = strike(plan, set, values);
-                    set(left, set, at(left, set & ~(1 << struck)));
+                    store(left, set, at(left, set & ~(1 << struck)));
                 }
             }
         }

@@ -13,6 +13,7 @@ public final class DrawersTest {
         faultOfNumbers();
         faultOfWhatIsTold();
         lay();
+        layAnew();
         thing();
         life();
         room();
@@ -214,6 +215,30 @@ public final class DrawersTest {
         CHECK.due("the last r: COINS", last.count(6), 0);
         last.pass(20);
         CHECK.due("COINS by none a year", last.count(6), 0);
+    }
+
+    /** Nothing of a text that was laid before, or looked through for a FAULT, is left in the next. */
+    private static void layAnew() {
+        String other = "r7,19;t1,3,0;t2,3,0;t3,4,0;t3,6,0;t3,8,0;l9,9,9;l8,8,8;n0,0;n0,1;n0,2;n1,0;n1,1;";
+        String plain = "r90,9;t0,9,0;t0,7,0;t0,5,0;t0,3,0;l1,1,1;n0,1;n0,3;";
+        BottomDrawer d = Check.laid(other);
+        d.fault();
+        d.lay();
+        d.wipe();
+        Check.write(d, plain);
+        CHECK.due("lay of another text", d.lay(), 1);
+        BottomDrawer fresh = Check.laid(plain);
+        for (int t = 0; t < 4; t++) {
+            CHECK.due("put(" + t + "), laid anew", d.put(t), fresh.put(t));
+            CHECK.same("laid anew", Check.look(d), Check.look(fresh));
+        }
+        CHECK.due("live(0), laid anew", d.live(0), 0);
+        d.wipe();
+        Check.write(d, "t0,1,0;l1,1,1;");
+        d.lay();
+        CHECK.due("ROOM without r, laid anew", d.count(2), 20);
+        CHECK.due("COINS without r, laid anew", d.count(6), 5);
+        CHECK.due("NEEDS, laid anew", d.life(0, 3), 0);
     }
 
     private static void layRefused(String text) {

@@ -6,6 +6,8 @@ public final class MothsAndYearsTest {
         moths();
         mothsOfAll();
         yearByHand();
+        yearOfOne();
+        yearOfNone();
         yearFromNow();
         yearRefused();
         keepAndBack();
@@ -81,6 +83,28 @@ public final class MothsAndYearsTest {
         d.put(1);
         year(d, 0, 1, 0, 2 + 7);
         year(d, 0, 2, 0, 2 + 7 - 6 + 7);
+    }
+
+    private static void yearOfOne() {
+        BottomDrawer d = Check.laid("t0,1,4;l1,1,1;");
+        year(d, 0, 1, 1, 5 - 4 + 5);
+        // z = 1: x = 7920, DRAW 22803: 22803/256 = 89 is odd, so that the LIFE is not LIVED.
+        year(d, 1, 1, 0, 5 - 4 + 5);
+        // z = 3: x = 23758, DRAW 44670: 5583 modulo 3 is 0; THING 0, which is in, is TAKEN OUT; 174 is even.
+        BottomDrawer in = Check.laid("t0,1,4;l1,1,1;n0,0;");
+        in.put(0);
+        year(in, 3, 1, 0, 1 + 5);
+        // z = 2: x = 15839, DRAW 59533: 7441 modulo 3 is 1, so that it stays; 232 is even.
+        year(in, 2, 1, 1, 1 + 5);
+        // z = 9999: x = 79182082, x * x is more than an int; DRAW 51303: THING 0; LIFE 1603 modulo 2; 200 is even.
+        BottomDrawer far = Check.laid("t0,1,1;t0,1,2;t0,1,3;l1,1,1;l1,1,1;n0,1;n0,2;n1,0;");
+        year(far, 9999, 1, 1, 5 - 1 + 5);
+    }
+
+    /** A THING that can't be put by for want of ROOM or COINS, and is not in, is not TAKEN OUT either. */
+    private static void yearOfNone() {
+        year(Check.laid("r1,0;t0,2,0;l1,1,1;n0,0;"), 0, 40, 0, 0);
+        year(Check.laid("r9,0;t0,2,1;l1,1,1;n0,0;"), 0, 40, 0, 0);
     }
 
     private static void yearFromNow() {

@@ -10,6 +10,7 @@ public final class WhatToPutByTest {
         serves();
         row();
         rowLinen();
+        rowOfMany();
         bargain();
         talk();
         talkAlike();
@@ -167,6 +168,19 @@ public final class WhatToPutByTest {
         row(p, 1, 2);
     }
 
+    private static void rowOfMany() {
+        // Each takes a LINEN one of its own, and the last two NEED one of these.
+        BottomDrawer d = Check.laid("r99,20;t2,1,0;t2,1,0;t2,1,0;t0,1,0;l1,1,1;l1,1,1;l1,1,1;l1,1,1;l1,1,1;"
+                + "n0,0;n1,1;n2,2;n3,0;n3,3;n4,1;n4,0;n4,1;n4,3;n4,2;n4,0;");
+        for (int t = 0; t < 4; t++) {
+            d.put(t);
+        }
+        // 3 NEEDS 0 as 0 does, 4 NEEDS 2 as 2 does: one of each two, and 1; 0, 1, 2 is the first.
+        row(d, 0, 1, 2);
+        d.live(0);
+        row(d, 1, 2);
+    }
+
     private static void bargain(int want, String lives, String needs) {
         BottomDrawer d = Check.laid("t0,1,0;" + lives + needs);
         CHECK.due("bargain of " + lives + needs, d.bargain(), want);
@@ -218,6 +232,8 @@ public final class WhatToPutByTest {
         CHECK.due("talk(-1)", d.talk(-1), BottomDrawer.BAD);
         CHECK.due("talk(2), none", d.talk(2), BottomDrawer.BAD);
         CHECK.due("talk(max)", d.talk(Integer.MAX_VALUE), BottomDrawer.BAD);
+        // Whom she strikes out first, asked ahead of all else.
+        CHECK.due("talk(1), asked first", Check.laid("t0,1,0;l1,9,1;l1,1,9;l1,3,8;l1,4,7;").talk(1), 1);
         // One that was LIVED is talked of like others, while it CAN BE.
         BottomDrawer lived = Check.laid("t0,1,0;l1,9,0;l1,8,9;");
         lived.live(0);
@@ -231,6 +247,9 @@ public final class WhatToPutByTest {
         talk(2, 0, "l1,7,7;l1,7,7;l1,7,7;");
         talk(3, 0, "l1,7,7;l1,7,7;l1,7,7;l1,7,7;");
         talk(5, 0, "l1,7,7;l1,7,7;l1,7,7;l1,7,7;l1,7,7;l1,7,7;");
+        // Alike in being worth nothing.
+        talk(1, 0, "l1,0,0;l1,0,0;");
+        talk(2, 0, "l1,0,0;l1,0,0;l1,0,0;");
         // Alike to her, whatever it is worth to him: she strikes the lowest; he then leaves 2.
         talk(2, 0, "l1,7,9;l1,7,1;l1,7,5;");
         // Alike to him: he strikes out the lower of what is left.

@@ -10,6 +10,7 @@ public final class YearsTest {
         pass();
         undo();
         undoEach();
+        undoOfMany();
         refused();
         CHECK.end();
     }
@@ -151,6 +152,42 @@ public final class YearsTest {
         CHECK.due("THE TEXT stays", d.count(11), 32 + 1);
         CHECK.due("put by as KEPT", d.back(), 0);
         CHECK.due("is in", d.thing(0, 3), 1);
+    }
+
+    /** Of more than 8 the last 8, each with all that it changed. */
+    private static void undoOfMany() {
+        BottomDrawer d = Check.laid("r99,20;t2,6,4;t0,1,1;t2,2,2;l1,1,1;l1,1,1;n0,0;n1,2;");
+        String[] looks = new String[13];
+        for (int i = 0; i < 12; i++) {
+            looks[i] = Check.look(d);
+            switch (i) {
+                case 0: d.put(0); break;
+                case 1: d.live(0); break;
+                case 2: d.put(1); break;
+                case 3: d.put(2); break;
+                case 4: d.live(1); break;
+                case 5: d.pass(3); break;
+                case 6: d.put(2); break;
+                case 7: d.out(1); break;
+                case 8: d.put(0); break;
+                case 9: d.put(1); break;
+                case 10: d.out(2); break;
+                default: d.out(0); break;
+            }
+        }
+        for (int i = 7; i >= 0; i--) {
+            CHECK.due("undo of many", d.undo(), i);
+            // What stands at count(9) was less while the first were still at hand.
+            CHECK.same("undone of many to " + i, behindCounts(Check.look(d)), behindCounts(looks[4 + i]));
+        }
+        CHECK.due("undo of many: no more", d.undo(), BottomDrawer.NO);
+    }
+
+    /** A look without its counts from 9 on. */
+    private static String behindCounts(String look) {
+        String[] counts = look.split(" ", 13);
+        counts[9] = "";
+        return String.join(" ", counts);
     }
 
     private static void refused() {
