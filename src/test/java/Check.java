@@ -51,6 +51,14 @@ final class Check {
         return d;
     }
 
+    static String times(String text, int n) {
+        StringBuilder all = new StringBuilder();
+        for (int i = 0; i < n; i++) {
+            all.append(text);
+        }
+        return all.toString();
+    }
+
     /** All that can be asked without a change, in one text. */
     static String look(BottomDrawer d) {
         StringBuilder all = new StringBuilder();

@@ -154,14 +154,14 @@ public final class DrawersTest {
         fault("l1,1,1;t0,1,0;n0,1;t0,1,0;", 14);
         fault("l1,1,1;t0,1,0;t0,1,0;n0,1;", none);
         fault("l1,1,1;t0,1,0;n0,99;", 14);
-        fault(times("t0,1,0;", 8), none);
-        fault(times("t0,1,0;", 9), 56);
-        fault(times("l1,1,1;", 6), none);
-        fault(times("l1,1,1;", 7), 42);
-        fault(times("r9,9;", 40), none);
-        fault(times("r9,9;", 39) + "r9,9:", 195);
+        fault(Check.times("t0,1,0;", 8), none);
+        fault(Check.times("t0,1,0;", 9), 56);
+        fault(Check.times("l1,1,1;", 6), none);
+        fault(Check.times("l1,1,1;", 7), 42);
+        fault(Check.times("r9,9;", 40), none);
+        fault(Check.times("r9,9;", 39) + "r9,9:", 195);
         // A fault is looked for anew each time.
-        BottomDrawer d = Check.written(times("t0,1,0;", 8));
+        BottomDrawer d = Check.written(Check.times("t0,1,0;", 8));
         CHECK.due("fault", d.fault(), none);
         CHECK.due("fault again", d.fault(), none);
         Check.write(d, "l1,1,1;n0,7;");
@@ -170,14 +170,6 @@ public final class DrawersTest {
         Check.write(d, "n0,0;");
         CHECK.due("fault of other", d.fault(), 0);
         CHECK.due("things as laid at first", d.count(0), 6);
-    }
-
-    private static String times(String text, int n) {
-        StringBuilder all = new StringBuilder();
-        for (int i = 0; i < n; i++) {
-            all.append(text);
-        }
-        return all.toString();
     }
 
     private static void lay() {
@@ -353,7 +345,7 @@ public final class DrawersTest {
         BottomDrawer none = Check.laid("t0,1,0;l0,60,60;");
         worth(none, 0, 0, 1);
         worth(none, 1, 0, 1);
-        BottomDrawer full = Check.laid(times("t0,1,0;", 8) + times("l9,60,60;", 6));
+        BottomDrawer full = Check.laid(Check.times("t0,1,0;", 8) + Check.times("l9,60,60;", 6));
         worth(full, 255, 60, 1);
         CHECK.due("worth(256, 0)", full.worth(256, 0), BottomDrawer.BAD);
         // A LIFE that was LIVED counts as it did.

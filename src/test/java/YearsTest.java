@@ -156,10 +156,19 @@ public final class YearsTest {
 
     /** Of more than 8 the last 8, each with all that it changed. */
     private static void undoOfMany() {
+        BottomDrawer d = manyDone(12);
+        for (int i = 7; i >= 0; i--) {
+            CHECK.due("undo of many", d.undo(), i);
+            // What stands at count(9) was less while the first were still at hand.
+            CHECK.same("undone of many to " + i, behindCounts(Check.look(d)), behindCounts(Check.look(manyDone(4 + i))));
+        }
+        CHECK.due("undo of many: no more", d.undo(), BottomDrawer.NO);
+    }
+
+    /** The first of twelve things done, on an object of its own: looks at one alone would come to more than 512 calls. */
+    private static BottomDrawer manyDone(int many) {
         BottomDrawer d = Check.laid("r99,20;t2,6,4;t0,1,1;t2,2,2;l1,1,1;l1,1,1;n0,0;n1,2;");
-        String[] looks = new String[13];
-        for (int i = 0; i < 12; i++) {
-            looks[i] = Check.look(d);
+        for (int i = 0; i < many; i++) {
             switch (i) {
                 case 0: d.put(0); break;
                 case 1: d.live(0); break;
@@ -175,12 +184,7 @@ public final class YearsTest {
                 default: d.out(0); break;
             }
         }
-        for (int i = 7; i >= 0; i--) {
-            CHECK.due("undo of many", d.undo(), i);
-            // What stands at count(9) was less while the first were still at hand.
-            CHECK.same("undone of many to " + i, behindCounts(Check.look(d)), behindCounts(looks[4 + i]));
-        }
-        CHECK.due("undo of many: no more", d.undo(), BottomDrawer.NO);
+        return d;
     }
 
     /** A look without its counts from 9 on. */
