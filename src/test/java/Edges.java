@@ -112,7 +112,7 @@ final class Edges {
     }
 
     /** All that can be found out of a standing. */
-    private static String whole(Ahead ahead) {
+    static String whole(Ahead ahead) {
         StringBuilder all = new StringBuilder();
         BottomDrawer d = made(ahead);
         all.append(Check.look(d));

@@ -149,6 +149,18 @@ public final class EdgesOfMothsAndYearsTest {
         }
         d.see(7, true);
         CHECK.due("meant by the last alone", d.meant(), 2);
+        // The first of what was SEEN counts as the last does.
+        d.forget();
+        d.see(0, true);
+        d.see(7, true);
+        CHECK.due("meant by the first and the last", d.meant(), 1);
+        d.forget();
+        d.see(0, false);
+        d.see(1, false);
+        CHECK.due("meant by neither of the first", d.meant(), 6);
+        d.see(7, false);
+        d.see(6, false);
+        CHECK.due("meant by neither of the first nor of the last", d.meant(), 4);
         // FLANNEL stands in for none of what is NEEDED here; what is in, or LIVED, is no matter.
         BottomDrawer f = Check.laid("t1,1,0;t0,1,0;l0,0,0;n0,1;");
         f.put(0);

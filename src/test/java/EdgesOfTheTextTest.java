@@ -35,6 +35,7 @@ public final class EdgesOfTheTextTest {
         faultAsksOnly();
         laid();
         notLaid();
+        laidAnother();
         laidAfresh();
         CHECK.end();
     }
@@ -441,6 +442,46 @@ public final class EdgesOfTheTextTest {
             Check.write(d, text);
         });
         edges.refused("lay of " + text, d -> d.lay(), BottomDrawer.NO);
+    }
+
+    /** Of what was LAID ahead nothing is left: neither KINDS nor NEEDS, nor how many there were. */
+    private static void laidAnother() {
+        String[] kinds = {"t1,9,0;", "t2,9,0;", "t3,9,0;"};
+        for (String kind : kinds) {
+            String ahead = "r99,0;" + Check.times(kind, 8) + Check.times("l9,9,9;", 6) + "n0,0;n0,1;n0,2;n1,0;n5,7;";
+            BottomDrawer d = Check.laid(ahead);
+            d.fault();
+            d.lay();
+            d.wipe();
+            Edges.lay(d, "t0,6,0;t0,4,0;t0,2,0;l1,1,1;n0,0;n0,1;");
+            CHECK.due("THINGS, laid behind " + kind, d.count(0), 3);
+            CHECK.due("LIVES, laid behind " + kind, d.count(1), 1);
+            CHECK.due("NEEDS, laid behind " + kind, d.life(0, 3), 3);
+            CHECK.due("put(0), laid behind " + kind, d.put(0), 14);
+            CHECK.due("put(2), laid behind " + kind, d.put(2), 12);
+            CHECK.due("CAN BE, laid behind " + kind, d.count(4), 0);
+            CHECK.due("put(1), laid behind " + kind, d.put(1), 8);
+            CHECK.due("live(0), laid behind " + kind, d.live(0), 0);
+            for (int lives = 1; lives <= 6; lives++) {
+                for (int things = 1; things <= 8; things++) {
+                    laidAnother(ahead, Check.times("t0,6,0;", things) + Check.times("l1,1,1;", lives) + "n0,0;");
+                }
+            }
+        }
+    }
+
+    private static void laidAnother(String ahead, String text) {
+        CHECK.same(text + " laid behind " + ahead, Edges.whole(d -> {
+            Edges.lay(d, ahead);
+            d.fault();
+            d.lay();
+            d.wipe();
+            Edges.lay(d, text);
+            d.put(0);
+        }), Edges.whole(d -> {
+            Edges.lay(d, text);
+            d.put(0);
+        }));
     }
 
     /** "nothing SEEN, UNDONE, KEPT; THE TEXT stays", and all is as at first, also when the same is LAID again. */

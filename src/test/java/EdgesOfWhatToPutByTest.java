@@ -5,6 +5,8 @@
 public final class EdgesOfWhatToPutByTest {
     private static final Check CHECK = new Check("EdgesOfWhatToPutByTest");
     private static final int NONE = BottomDrawer.NONE;
+    /** 0, worth most to her and least to him, CAN BE by a THING alone. */
+    private static final String SOME = "t0,1,0;l1,60,0;l1,9,1;l1,1,9;l1,5,5;n0,0;";
 
     public static void main(String[] args) {
         bestNumbers();
@@ -36,6 +38,7 @@ public final class EdgesOfWhatToPutByTest {
         talkOfOne();
         talkOfTwo();
         talkAlike();
+        talkAskedFirst();
         talkOfSome();
         CHECK.end();
     }
@@ -382,6 +385,11 @@ public final class EdgesOfWhatToPutByTest {
         bargain(1, "l1,8,7;l1,7,7;");
         bargain(3, "l1,8,7;l1,7,8;");
         bargain(6, "l1,7,7;l1,7,8;l1,7,8;");
+        // One less to one of both is less, however much more it is to the other.
+        bargain(3, "l1,8,7;l1,7,9;");
+        bargain(3, "l1,7,8;l1,9,7;");
+        bargain(3, "l1,1,0;l1,0,60;");
+        bargain(3, "l1,0,1;l1,60,0;");
     }
 
     private static void bargainAtMost() {
@@ -443,9 +451,22 @@ public final class EdgesOfWhatToPutByTest {
         talk(2, 0, "l1,1,9;l1,1,9;l1,2,9;");
     }
 
+    /** Whom she strikes out first does not hang on which of both was asked ahead, nor on another standing's talk. */
+    private static void talkAskedFirst() {
+        BottomDrawer d = Check.laid(SOME);
+        CHECK.due("talk(1) of three, asked first", d.talk(1), 2);
+        CHECK.due("talk(0) of three", d.talk(0), 3);
+        d.put(0);
+        CHECK.due("talk(1) of four", d.talk(1), 2);
+        CHECK.due("talk(0) of four", d.talk(0), 1);
+        d.out(0);
+        CHECK.due("talk(1) of three again", d.talk(1), 2);
+        CHECK.due("talk(0) of three again", d.talk(0), 3);
+    }
+
     /** Of those that CAN BE alone, LIVED or not. */
     private static void talkOfSome() {
-        BottomDrawer d = Check.laid("t0,1,0;l1,60,0;l1,9,1;l1,1,9;l1,5,5;n0,0;");
+        BottomDrawer d = Check.laid(SOME);
         // Without 1 or 3 he leaves her 2, worth 1; without 2 he leaves 3, worth 5.
         CHECK.due("talk(0), 0 can not be", d.talk(0), 3);
         CHECK.due("talk(1), 0 can not be", d.talk(1), 2);
