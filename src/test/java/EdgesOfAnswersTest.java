@@ -56,6 +56,7 @@ public final class EdgesOfAnswersTest {
         }
     }
 
+    /** The numbers that stand for BAD, NO, FULL and NONE on the public face. */
     private static void constants() {
         CHECK.due("BAD", BAD, -1);
         CHECK.due("NO", NO, -2);
@@ -63,6 +64,7 @@ public final class EdgesOfAnswersTest {
         CHECK.due("NONE", NONE, -4);
     }
 
+    /** "BAD: a number is none that is told", where nothing is and where all is full. */
     private static void badOfOne() {
         for (int i = 0; i <= 1; i++) {
             Edges edges = i == 0 ? BARE : FILLED;
@@ -94,6 +96,7 @@ public final class EdgesOfAnswersTest {
         }
     }
 
+    /** "BAD ..": as above, for calls of two numbers. */
     private static void badOfTwo() {
         two("thing", (d, t, what) -> d.thing(t, what), 7, 5);
         two("life", (d, l, what) -> d.life(l, what), 5, 5);
@@ -102,6 +105,7 @@ public final class EdgesOfAnswersTest {
         two("cover", (d, set, what) -> d.cover(set, what), 63, 2);
     }
 
+    /** "BAD ..": as above, for calls of three numbers. */
     private static void badOfThree() {
         three("moths", (d, l, x, part) -> d.moths(l, x, part), new int[] {0, 0, 0}, new int[] {5, 10, 1});
         three("year", (d, z, n, what) -> d.year(z, n, what), new int[] {0, 1, 0}, new int[] {9999, 40, 1});
@@ -145,6 +149,7 @@ public final class EdgesOfAnswersTest {
         FILLED.refused("put(8), filled", d -> d.put(8), BAD);
     }
 
+    /** "Of several the first in this order": none is left, or CAN BE, and the number is none that is told. */
     private static void badAheadOfNone() {
         BARE.refused("talk(0), bare", d -> d.talk(0), NONE);
         BARE.refused("talk(1), bare", d -> d.talk(1), NONE);
@@ -159,6 +164,7 @@ public final class EdgesOfAnswersTest {
         FILLED.refused("row(7), filled", d -> d.row(7), BAD);
     }
 
+    /** "Of several the first in this order": it is full, and the number is none that is told. */
     private static void badAheadOfFull() {
         FILLED.refused("write(32), filled", d -> d.write(32), FULL);
         FILLED.refused("write(31), filled", d -> d.write(31), BAD);
@@ -170,6 +176,7 @@ public final class EdgesOfAnswersTest {
         FILLED.refused("see(-1, false), filled", d -> d.see(-1, false), BAD);
     }
 
+    /** "NO: not as things stand", of each call that can answer it. */
     private static void noOfEach() {
         BARE.refused("lay, bare", d -> d.lay(), NO);
         BARE.refused("undo, bare", d -> d.undo(), NO);
@@ -179,6 +186,7 @@ public final class EdgesOfAnswersTest {
         BARE.refused("live(0), bare", d -> d.live(0), NO);
     }
 
+    /** "NONE: there is none", of each call that can answer it. */
     private static void noneOfEach() {
         BARE.refused("serves, bare", d -> d.serves(), NONE);
         BARE.refused("row(1), bare", d -> d.row(1), NONE);
@@ -195,6 +203,7 @@ public final class EdgesOfAnswersTest {
         FILLED.refused("meant, filled", d -> d.meant(), 0);
     }
 
+    /** "FULL", of each call that can answer it. */
     private static void fullOfEach() {
         FILLED.refused("write('r'), filled", d -> d.write('r'), FULL);
         FILLED.refused("see(0, true), filled", d -> d.see(0, true), FULL);

@@ -133,6 +133,7 @@ public final class EdgesOfMothsAndYearsTest {
         CHECK.due("meant by 0 and not 0: none", d.meant(), 0);
     }
 
+    /** "all that was SEEN to be, and none that was SEEN not to be": up to 8 SEEN, each of them counts. */
     private static void meantOfAllSeen() {
         String all = Check.times("t0,1,0;", 8) + "l0,0,0;l0,0,0;l0,0,0;n0,0;n0,1;n0,2;n0,3;n0,4;n0,5;n0,6;n0,7;n1,7;";
         BottomDrawer d = Check.laid(all);
@@ -213,6 +214,7 @@ public final class EdgesOfMothsAndYearsTest {
         moths("by FLANNEL alone", one, 0, 10, 0, 1);
     }
 
+    /** "each THING in the DRAWER": where there is none, nothing is lost, and it is 0 or 1 for each x. */
     private static void mothsOfTheEmptyDrawer() {
         BottomDrawer d = Check.laid("t0,1,0;l1,1,1;l1,1,1;n0,0;");
         for (int x = 0; x <= 10; x++) {
@@ -346,6 +348,7 @@ public final class EdgesOfMothsAndYearsTest {
         CHECK.due("year(9999, 40, 0), all LIVED", all.year(9999, 40, 0), 6);
     }
 
+    /** "of n .. years from now on": how it would be then; all stands as it stood. */
     private static void yearChangesNothing() {
         Edges busy = new Edges(CHECK, Edges::busy);
         Edges fresh = new Edges(CHECK, d -> { });

@@ -293,6 +293,7 @@ public final class EdgesOfThingsAndLivesTest {
         worth("t0,1,0;l3,0,60;", 0, 0, 1);
     }
 
+    /** The most that "P times V .. together" can come to: six of P 9, V 60; and less by one LIFE that can not be. */
     private static void worthAtMost() {
         worth(Check.times("t0,1,0;", 8) + Check.times("l9,60,60;", 6) + "n0,0;n1,1;n2,2;n3,3;n4,4;n5,5;n5,6;n5,7;",
                 255, 60, 1);

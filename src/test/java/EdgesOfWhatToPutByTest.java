@@ -101,6 +101,7 @@ public final class EdgesOfWhatToPutByTest {
         best(rich, 20, 255, 6, 1);
     }
 
+    /** "cost no more together": each alone would be paid, both only behind 20 YEARS. */
     private static void bestByCoinsTogether() {
         BottomDrawer d = Check.laid("r20,1;t0,1,20;t0,1,1;t0,1,1;l1,7,0;n0,0;n0,1;");
         best(d, 19, 0, 0, 1);
@@ -158,6 +159,7 @@ public final class EdgesOfWhatToPutByTest {
         best(Check.laid("r99,20;t0,1,0;t0,1,0;t0,1,0;l1,5,0;n0,2;"), 0, 4, 5, 1);
     }
 
+    /** "of greatest WORTH, of several that of fewest THINGS": where nothing is worth more, no THING. */
     private static void bestOfNoWorth() {
         // P of all together 0; V of all 0; too large all; too dear all; no NEEDS at all.
         best(Check.laid("r99,20;t0,1,0;l0,60,60;n0,0;"), 20, 0, 0, 1);
@@ -183,12 +185,14 @@ public final class EdgesOfWhatToPutByTest {
         new Edges(CHECK, Edges::busy).only("cover(, 2), busy", (d, set) -> d.cover(set, 2), 0, 15);
     }
 
+    /** "COVER for a set of LIVES": of the empty set, and of LIVES that NEED none, no THING. */
     private static void coverOfNone() {
         cover("t0,1,0;l1,1,1;n0,0;", 0, 0, 0, 0);
         cover("t0,1,0;l1,1,1;", 1, 0, 0, 0);
         cover(Edges.FULL_TEXT, 0, 0, 0, 0);
     }
 
+    /** "by which all of these CAN BE": of one LIFE, of all six, of all eight THINGS. */
     private static void coverOfAll() {
         cover(Edges.FULL_TEXT, 63, 255, 8, 80);
         cover(Edges.FULL_TEXT, 1, 3, 2, 20);
@@ -241,6 +245,7 @@ public final class EdgesOfWhatToPutByTest {
         linen.refused("serves, LINEN gone", d -> d.serves(), NONE);
     }
 
+    /** "the THING in the DRAWER": where there is but one it is that one, of no WORTH too. */
     private static void servesTheOne() {
         for (int t = 0; t <= 7; t++) {
             BottomDrawer d = Check.laid(Check.times("t0,1,0;", 8) + "l1,5,5;n0,0;");
@@ -299,6 +304,7 @@ public final class EdgesOfWhatToPutByTest {
         Edges.ofText(CHECK, "t0,1,0;" + Check.times("l1,1,1;", 6)).only("row of six", (d, k) -> d.row(k), 0, 6);
     }
 
+    /** "LIVES that can be LIVED now": where none can, how many is 0, and each k-th NONE. */
     private static void rowOfNone() {
         BottomDrawer d = Check.laid("t0,1,0;l1,1,1;n0,0;");
         row("none CAN BE", d);
@@ -309,6 +315,7 @@ public final class EdgesOfWhatToPutByTest {
         CHECK.due("CAN BE, LIVED", d.count(4), 1);
     }
 
+    /** "how many (k = 0), the k-th (1 to 6 ..)": as many as can be, and one fewer each time. */
     private static void rowOfSix() {
         BottomDrawer d = Check.laid("t0,1,0;" + Check.times("l0,0,0;", 6));
         row("all six", d, 0, 1, 2, 3, 4, 5);
@@ -392,6 +399,7 @@ public final class EdgesOfWhatToPutByTest {
         bargain(3, "l1,0,1;l1,60,0;");
     }
 
+    /** "those (bits)": all six, one of six, and the first and last of six, at 0 and 60. */
     private static void bargainAtMost() {
         bargain(63, "l1,0,60;l1,1,59;l1,2,58;l1,58,2;l1,59,1;l1,60,0;");
         bargain(32, "l1,0,60;l1,1,59;l1,2,58;l1,58,2;l1,59,1;l1,60,60;");
@@ -431,6 +439,7 @@ public final class EdgesOfWhatToPutByTest {
         one.unchanged("talk(0), one CAN BE", d -> d.talk(0));
     }
 
+    /** "until one is left": of two she strikes out one, and he none. */
     private static void talkOfTwo() {
         talk(1, 0, "l1,1,9;l1,2,0;");
         talk(0, 1, "l1,2,0;l1,1,9;");

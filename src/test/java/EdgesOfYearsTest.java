@@ -238,6 +238,7 @@ public final class EdgesOfYearsTest {
         CHECK.due("live(0), PUT BY again", next.live(0), 1);
     }
 
+    /** "was not LIVED": each of as many LIVES as there can be, once; they CAN BE all the same. */
     private static void liveSix() {
         BottomDrawer d = Check.laid("t0,1,0;" + Check.times("l0,0,0;", 6));
         for (int l = 5; l >= 0; l--) {
